@@ -664,12 +664,16 @@ public final class Bothfaces {
         return isBack ? standAfter(stand, HALF_ROUND) : stand;
     }
 
+    /** Where there is no plan up to a pick, there is none beyond it. */
     private boolean plansHold(int card) {
         planner.begin(cards[card].stand);
         for (int last = pickCount; last < MOST_PICKS; last++) {
             planOneMore(card, last);
             long plan = planner.best();
-            if (plan != NO_PLAN && !wouldBeRight(card, last, plan)) {
+            if (plan == NO_PLAN) {
+                return true;
+            }
+            if (!wouldBeRight(card, last, plan)) {
                 return false;
             }
         }
@@ -936,7 +940,6 @@ public final class Bothfaces {
         /** Whatever row a set of orders is woven in, its last one is ready on the same day. */
         private int mostWorth() {
             int sets = 1 << count;
-            mostOf[0] = 0;
             for (int set = 1; set < sets; set++) {
                 int day = daysOf(set);
                 int most = 0;

@@ -142,6 +142,15 @@ public final class CardsTest {
             x.turn(1, false);
         }
         CHECK.same("7: below 0", x.mostTwist(), 3);
+        for (int i = 2; i < 16; i++) {
+            x.card(0, 1, 2, 3, 'z');
+            x.setPack(i, 2);
+        }
+        x.setPack(15, 3);
+        for (int i = 0; i < 5; i++) {
+            x.turn(3, true);
+        }
+        CHECK.same("7: of the last of 16", x.mostTwist(), 5);
     }
 
     private static void slips() {

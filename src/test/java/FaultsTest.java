@@ -8,6 +8,7 @@ public final class FaultsTest {
         countsFaults();
         suspects();
         findsASlip();
+        findsTheFirstCardsFault();
         CHECK.end();
     }
 
@@ -69,6 +70,20 @@ public final class FaultsTest {
         x.setGround(true, 1);
         CHECK.same("29: by what is wanted now", x.firstFault(), 0);
         CHECK.same("30: by what is wanted now", x.suspect(), 0);
+    }
+
+    private static void findsTheFirstCardsFault() {
+        Bothfaces x = new Bothfaces();
+        x.card(0, 0, 0, 3, 's');
+        for (int i = 1; i < 16; i++) {
+            x.card(0, 0, 0, 0, 's');
+        }
+        x.pick();
+        x.turn(0, true);
+        x.pick();
+        CHECK.same("29: of the card 0 alone", x.firstFault(), 1);
+        CHECK.same("30: the card 0", x.suspect(), 0);
+        CHECK.same("27: of sixteen cards", x.faults(true), 1);
     }
 
     /** Cards that turn to and fro show what is wanted, until one of them slips by a half. */

@@ -10,6 +10,7 @@ public final class LettersTest {
         colours();
         wantsOnTheFront();
         wantsOnTheBack();
+        wantsNoInkWithoutAMotto();
         lettersAreAsDrawnByNow();
         pairs();
         CHECK.end();
@@ -178,6 +179,18 @@ public final class LettersTest {
                 }
                 CHECK.same("21: card " + card + ", pick " + pick, x.wanted(card, pick, isBack), isInk ? 1 : 0);
             }
+        }
+    }
+
+    private static void wantsNoInkWithoutAMotto() {
+        Bothfaces x = loom(5);
+        for (int row = 0; row < 5; row++) {
+            x.draw('a', row, 7);
+        }
+        x.type('a');
+        for (int pick = 0; pick < 40; pick++) {
+            CHECK.same("21: front", x.wanted(0, pick, false), 0);
+            CHECK.same("21: back", x.wanted(4, pick, true), 0);
         }
     }
 

@@ -5,6 +5,7 @@ public final class MendingTest {
     public static void main(String[] args) {
         countsUnseenWays();
         countsSeenWays();
+        countsWaysByTheFrontAlone();
         refusesWays();
         measuresYarn();
         countsKinds();
@@ -62,6 +63,28 @@ public final class MendingTest {
         CHECK.same("31: a slip to the other place", x.ways(0, 4, 5, true), x.at(0) == 2 || x.at(0) == 0 ? 0 : 1);
     }
 
+    /** From the hole 1 to the hole 1, or 3, by each hole that shows the front's colour in the pick between. */
+    private static void countsWaysByTheFrontAlone() {
+        int[][] threads = {{0, 4, 1, 4}, {1, 4, 0, 4}, {0, 4, 0, 5}, {3, 2, 3, 3}};
+        int[] due = {1, 1, 2, 2};
+        for (int i = 0; i < 4; i++) {
+            for (int from = 0; from < 4; from++) {
+                Bothfaces x = new Bothfaces();
+                int[] t = threads[i];
+                x.card(t[from], t[(from + 1) % 4], t[(from + 2) % 4], t[(from + 3) % 4], 's');
+                while ((x.at(0) + from) % 4 != 1) {
+                    x.slip(0, 1);
+                }
+                for (int pick = 0; pick < 3; pick++) {
+                    x.pick();
+                    x.turn(0, true);
+                }
+                CHECK.same("31: threads " + i + " from " + from, x.ways(0, 0, 2, true), due[i]);
+                CHECK.same("31: unseen", x.ways(0, 0, 2, false), 2);
+            }
+        }
+    }
+
     private static void refusesWays() {
         Bothfaces none = new Bothfaces();
         CHECK.fails("31: without cards", IndexOutOfBoundsException.class, () -> none.ways(0, 0, 0, true));
@@ -98,6 +121,9 @@ public final class MendingTest {
         x.turn(1, false);
         x.pick();
         yarns(x, "the holes 0 and 2 come up", 126, 186, 63, 123);
+        Bothfaces soon = woven(2, 0, 1, 2, 3);
+        CHECK.same("32: comes up in the pick 1", soon.yarn(0), 27);
+        CHECK.same("32: was up in the pick 0", soon.yarn(1), 24);
         CHECK.same("32: no such yarn", x.yarn(7), 0);
         int[] wrong = {-1, 8, Integer.MIN_VALUE, Integer.MAX_VALUE};
         for (int w : wrong) {
@@ -125,13 +151,18 @@ public final class MendingTest {
         CHECK.same("33: from the hole 3 on", x.kinds(), 1);
         x.card(1, 2, 3, 0, 'z');
         CHECK.same("33: threaded the other way", x.kinds(), 2);
+        x.card(0, 1, 2, 3, 's');
+        CHECK.same("33: from the hole 0 on", x.kinds(), 2);
         x.card(3, 2, 1, 0, 's');
         CHECK.same("33: the other way round is another kind", x.kinds(), 3);
         x.card(0, 0, 1, 1, 's');
         x.card(0, 1, 0, 1, 's');
         CHECK.same("33: like colours in another row", x.kinds(), 5);
+        x.card(4, 1, 0, 1, 's');
+        x.card(0, 4, 0, 1, 's');
+        CHECK.same("33: another colour in one hole", x.kinds(), 7);
         x.turn(0, true);
         x.pick();
-        CHECK.same("33: where they stand does not matter", x.kinds(), 5);
+        CHECK.same("33: where they stand does not matter", x.kinds(), 7);
     }
 }

@@ -137,7 +137,7 @@ public final class OrdersTest {
         int better = 0;
         for (int round = 0; round < 60; round++) {
             Bothfaces x = new Bothfaces();
-            int count = 1 + below(7);
+            int count = round < 4 ? 8 : 1 + below(7);
             int[][] orders = new int[count][];
             for (int i = 0; i < count; i++) {
                 orders[i] = new int[] {1 + below(60), 1 + below(999), 1 + below(12)};

@@ -6,6 +6,7 @@ public final class PicksTest {
         putsIn();
         takesOut();
         takesTheOnlyOneOut();
+        takesOutOfSixteen();
         shows();
         idleAndFloats();
         CHECK.end();
@@ -63,6 +64,23 @@ public final class PicksTest {
         CHECK.same("10: stands as it is", x.at(0), 3);
         CHECK.same("10: twist as it is", x.twist(0), 2);
         CHECK.fails("10: none any more", UnsupportedOperationException.class, () -> x.unweave());
+    }
+
+    private static void takesOutOfSixteen() {
+        Bothfaces x = new Bothfaces();
+        for (int i = 0; i < 16; i++) {
+            x.card(0, 1, 2, 3, 'z');
+        }
+        x.turn(0, false);
+        x.pick();
+        x.turn(0, false);
+        x.pick();
+        x.unweave();
+        for (int i = 0; i < 16; i++) {
+            CHECK.same("10: stand of card " + i, x.at(i), 3);
+            CHECK.same("10: twist of card " + i, x.twist(i), 1);
+        }
+        CHECK.yes("43: sixteen cards", x.isSound());
     }
 
     private static void shows() {

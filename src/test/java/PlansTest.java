@@ -8,6 +8,7 @@ public final class PlansTest {
         plansWithoutAnyChoice();
         plansAFreeCard();
         plansToAndFro();
+        plansFroAndTo();
         plansAgainstAllRows();
         refuses();
         weaves();
@@ -64,6 +65,16 @@ public final class PlansTest {
         CHECK.same("24: to and fro", x.reversals(0, 39), 39);
         for (int i = 0; i < 40; i++) {
             CHECK.same("25: to and fro", x.planAt(0, 39, i), i % 2 == 0 ? 'f' : 'b');
+        }
+    }
+
+    private static void plansFroAndTo() {
+        Bothfaces x = new Bothfaces();
+        x.card(0, 1, 1, 0, 'z');
+        x.setGround(true, 1);
+        CHECK.same("24: fro and to", x.reversals(0, 39), 39);
+        for (int i = 0; i < 40; i++) {
+            CHECK.same("25: fro and to", x.planAt(0, 39, i), i % 2 == 0 ? 'b' : 'f');
         }
     }
 
