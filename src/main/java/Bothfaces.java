@@ -937,7 +937,10 @@ public final class Bothfaces {
             return day;
         }
 
-        /** Whatever row a set of orders is woven in, its last one is ready on the same day. */
+        /**
+         * Whatever row a set of orders is woven in, its last one is ready on the same day.
+         * The empty set, number 0, is never written and brings 0.
+         */
         private int mostWorth() {
             int sets = 1 << count;
             for (int set = 1; set < sets; set++) {
