@@ -5,7 +5,24 @@ final class Check {
         void run();
     }
 
+    /** A call with a number that may be out of a range. */
+    interface Numbered {
+        void run(int number);
+    }
+
+    private static final int FAR = 1 << 16;
+
     private int wrong;
+    private String about = "";
+
+    /** What all wrong answers from now on are about. */
+    void about(String text) {
+        about = text;
+    }
+
+    int wrong() {
+        return wrong;
+    }
 
     void same(String what, long got, long want) {
         if (got != want) {
@@ -46,6 +63,32 @@ final class Check {
         tell(what + " threw nothing, due is " + due.getName());
     }
 
+    void passes(String what, Call call) {
+        try {
+            call.run();
+        } catch (RuntimeException e) {
+            tell(what + " threw " + e);
+        }
+    }
+
+    /**
+     * The call must take every number from least to most, and throw this very class for others: those
+     * beside the range, the farthest ones, and such as lie in it if cut to fewer bits.
+     */
+    void range(Class<? extends RuntimeException> due, int least, int most, Numbered call) {
+        for (int i = least; i <= most; i++) {
+            int number = i;
+            passes("the number " + number, () -> call.run(number));
+        }
+        int[] others = {least - 1, most + 1, least - 2, most + 2, -most - 1, least + 256, most - 256,
+                least + FAR, most - FAR, Integer.MIN_VALUE, Integer.MIN_VALUE + most, Integer.MAX_VALUE};
+        for (int other : others) {
+            if (other < least || other > most) {
+                fails("the number " + other, due, () -> call.run(other));
+            }
+        }
+    }
+
     static boolean isFromTheMachine(RuntimeException e) {
         StackTraceElement[] trace = e.getStackTrace();
         return trace.length == 0 || !trace[0].getClassName().startsWith("Bothfaces")
@@ -55,7 +98,7 @@ final class Check {
     void tell(String text) {
         wrong++;
         if (wrong <= 40) {
-            System.out.println(text);
+            System.out.println(about + text);
         }
     }
 
